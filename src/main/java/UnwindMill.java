@@ -36,7 +36,8 @@ public final class UnwindMill {
     }
 
     public int node(int kind, int a, int b, int c, int d) {
-        return kind == Kind.CATCH_BEHIND ? NONE : tree.add(kind, a, b, c, d, NONE);
+        // Kind 20 is refused with this e, since it wants a catch there.
+        return tree.add(kind, a, b, c, d, NONE);
     }
 
     public int catchBehind(int a, int b, int c, int d, int e) {
@@ -343,11 +344,15 @@ public final class UnwindMill {
         final int[] keeps = new int[MOST_SCOPES];
         /** The instruction behind a scope: a TRY's E, a WHILE's M. */
         final int[] ends = new int[MOST_SCOPES];
+        /** For the scopes begun after the looked-at one: in which part of it they are, or NONE. */
+        private final int[] parts = new int[MOST_SCOPES];
+        private int looked;
         private int count;
 
         void clear() {
             tries[OUTSIDE] = NONE;
             finallies[OUTSIDE] = NONE;
+            looked = OUTSIDE;
             count = 1;
         }
 
@@ -404,13 +409,24 @@ public final class UnwindMill {
             return NONE;
         }
 
-        /** In which part of a scope a context is, or NONE if it is not in the scope. */
-        int partAround(int context, int scope) {
-            int at = context;
-            for (int left = count; left > 0 && scopeOf(at) > scope; left--) {
-                at = outers[scopeOf(at)];
+        /** A scope is looked at; one pass tells the parts, since no scope is before one that it is in. */
+        void lookAt(int scope) {
+            if (scope == looked) {
+                return;
             }
-            return scopeOf(at) == scope ? partOf(at) : NONE;
+            looked = scope;
+            for (int i = scope + 1; i < count; i++) {
+                parts[i] = partLookedAt(outers[i]);
+            }
+        }
+
+        /** In which part of the looked-at scope a context is, or NONE if it is not in it. */
+        int partLookedAt(int context) {
+            int scope = scopeOf(context);
+            if (scope < looked) {
+                return NONE;
+            }
+            return scope == looked ? partOf(context) : parts[scope];
         }
     }
 
@@ -814,6 +830,7 @@ public final class UnwindMill {
         }
 
         private void addRows(int handler) {
+            scopes.lookAt(handlers.scopes[handler]);
             int first = NONE;
             for (int i = 0; i <= code.count; i++) {
                 boolean taken = i < code.count && takesFrom(handler, i);
@@ -828,7 +845,7 @@ public final class UnwindMill {
 
         /** A catch takes from its TRY's a alone, a finally from all that its TRY is around. */
         private boolean takesFrom(int handler, int i) {
-            int part = scopes.partAround(code.contexts[i], handlers.scopes[handler]);
+            int part = scopes.partLookedAt(code.contexts[i]);
             return part == Scopes.BODY || part == Scopes.CATCHES && handlers.catches[handler] == NONE;
         }
 
