@@ -2,15 +2,21 @@
 final class Check {
     private static int wrong = 0;
     private static int asked = 0;
+    private static String sentence = "";
 
     private Check() {
+    }
+
+    /** The document's words that are tested from here on; they are told with each wrong answer. */
+    static void sentence(String words) {
+        sentence = "\"" + words + "\": ";
     }
 
     static void due(String what, long got, long want) {
         asked++;
         if (got != want) {
             wrong++;
-            System.out.println(what + " answered " + got + ", due is " + want);
+            System.out.println(sentence + what + " answered " + got + ", due is " + want);
         }
     }
 
@@ -39,7 +45,7 @@ final class Check {
         asked++;
         if (!got.equals(want)) {
             wrong++;
-            System.out.println(what + " answered\n  " + got + "\ndue is\n  " + want);
+            System.out.println(sentence + what + " answered\n  " + got + "\ndue is\n  " + want);
         }
     }
 
@@ -82,6 +88,26 @@ final class Check {
         all.append(" |");
         for (int i = 0; i < x.latest(3); i++) {
             all.append(' ').append(x.out(i));
+        }
+        return all.toString();
+    }
+
+    /** All that can be asked of an object, in one text: two that are the same are in the same state but for nodes and bodies. */
+    static String all(UnwindMill x) {
+        StringBuilder all = new StringBuilder("laid");
+        for (int what = 0; what < 4; what++) {
+            all.append(' ').append(x.laid(what));
+        }
+        all.append("\n  ").append(code(x)).append("\n  ").append(table(x)).append("\n  entries");
+        for (int f = 0; f < 6; f++) {
+            all.append(' ').append(x.entry(f));
+        }
+        all.append("\n  ").append(report(x)).append(" | ");
+        for (int i = 0; i < 65; i++) {
+            all.append(x.out(i)).append(' ');
+        }
+        for (int v = 0; v < 8; v++) {
+            all.append("| ").append(x.variable(v));
         }
         return all.toString();
     }

@@ -39,6 +39,8 @@ public final class FaceTest {
             }
         }
         Check.same("the face", seen.toString(), new TreeSet<>(java.util.List.of(FACE)).toString());
+        exceptions("instruction");
+        exceptions("row");
         Check.due("final", Modifier.isFinal(UnwindMill.class.getModifiers()), true);
         Check.due("NONE", UnwindMill.NONE, -1);
         Check.due("TOO_LARGE", UnwindMill.TOO_LARGE, -2);
@@ -46,6 +48,15 @@ public final class FaceTest {
         for (Class<?> inside : UnwindMill.class.getDeclaredClasses()) {
             for (Method m : inside.getDeclaredMethods()) {
                 Check.due(inside.getName() + "." + m.getName() + " bears a public name", names.contains(m.getName()), false);
+            }
+        }
+    }
+
+    private static void exceptions(String name) {
+        for (Method m : UnwindMill.class.getDeclaredMethods()) {
+            if (m.getName().equals(name)) {
+                Check.same(name + " throws", types(m.getExceptionTypes()),
+                    "class java.lang.IndexOutOfBoundsException class java.lang.IllegalArgumentException");
             }
         }
     }

@@ -96,6 +96,37 @@ final class Maker {
         return n % 2 == 0 ? twice : sequence(twice, statement);
     }
 
+    /** An expression of an odd number of nodes, each of which makes one instruction. */
+    int tree(int size) {
+        if (size == 1) {
+            return number(1);
+        }
+        int half = (size - 1) / 2;
+        if (half % 2 == 1) {
+            int part = tree(half);
+            return two(2, part, part);
+        }
+        // The smaller part is of use in the greater one again, so few nodes are made.
+        int small = tree(half - 1);
+        return two(2, small, two(2, small, number(1)));
+    }
+
+    /** A statement of exactly so many instructions, 1 at least, and hardly more nodes than that. */
+    int filler(int instructions) {
+        if (instructions == 1) {
+            return call(0);
+        }
+        return instructions % 2 == 0 ? put(tree(instructions - 1)) : sequence(call(0), filler(instructions - 1));
+    }
+
+    /** A statement of exactly so many nodes, 1 at least, that makes no instruction. */
+    int idle(int nodes) {
+        if (nodes == 1) {
+            return skip();
+        }
+        return nodes % 2 == 0 ? attempt(idle(nodes - 1), -1, -1) : times(skip(), (nodes + 1) / 2);
+    }
+
     void bodyOf(int function, int statement) {
         Check.due("body(" + function + ", " + statement + ")", x.body(function, statement), true);
     }
