@@ -395,13 +395,13 @@ public final class RunEdgeTest {
     private static void thePileIsNew() {
         Check.sentence("A RUN begins at a function, with all variables 0 and one FRAME. The pile (ints) is each frame's own.");
         Maker m = new Maker();
-        int one = m.number(1);
-        int deep = one;
+        int v = m.variable(0);
+        int deep = v;
         for (int i = 0; i < 110; i++) {
-            deep = m.two(2, one, deep);
+            deep = m.two(2, v, deep);
         }
         m.bodyOf(0, m.sequence(spending(m, 321, 0), m.put(deep)));
-        m.bodyOf(1, m.put(deep));
+        m.bodyOf(1, m.sequence(m.set(0, m.number(1)), m.put(deep)));
         m.x.lay(false);
         for (int i = 0; i < 3; i++) {
             Check.due("too long", m.x.run(0), 3);
