@@ -549,7 +549,8 @@ public final class UnwindMill {
                 takeTurns();
             }
             emit(Op.RET, 0, Scopes.OUTSIDE);
-            for (int i = 0; i < doneCount && verdict == FINE; i++) {
+            // TRYs that are laid down here are set down in the same row, so it grows; it has an end.
+            for (int i = 0; i < MOST_BEGUN && i < doneCount && verdict == FINE; i++) {
                 int scope = done[i];
                 work.push(scopes.tries[scope], Scopes.within(scope, Scopes.CATCHES), APART_CATCH);
                 takeTurns();
